@@ -1231,7 +1231,6 @@ public final class PenSchool {
         int cutBest(Tongue tongue) {
             restCosts[size] = 0;
             restPhrases[size] = 0;
-            firstSizes[size] = 0;
             for (int i = size - 1; i >= 0; i--) {
                 cutRest(tongue, i);
             }
@@ -1851,7 +1850,6 @@ public final class PenSchool {
             days[size] = day;
             grades[size] = worth(words, wrongOnes);
             toldOn[size] = told;
-            timesRight[size] = 0;
             latestTold = told;
             size++;
             return size - 1;

@@ -3,7 +3,7 @@ import java.util.Random;
 
 /** Runs of calls that are drawn by lot (always the same ones), each answered by PenSchool and PlainSchool. */
 public final class AgainstPlainSchoolTest {
-    private static final int RUNS = 5000;
+    private static final int RUNS = 4000;
     private static final int CALLS = 500;
 
     private final Random lot;

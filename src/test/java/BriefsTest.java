@@ -14,6 +14,7 @@ public final class BriefsTest {
         best();
         chosenIsKept();
         adopt();
+        anotherSystem();
         Check.finish("BriefsTest");
     }
 
@@ -146,6 +147,22 @@ public final class BriefsTest {
         Check.due("chosen() again", x.chosen(), 2);
         Check.system(x, "");
         Check.due("chosen() behind a system", x.chosen(), 0);
+    }
+
+    private static void anotherSystem() {
+        PenSchool x = school();
+        Check.candidate(x, 0, "DA");
+        Check.candidate(x, 2, "D");
+        Check.due("one that needs another", x.saves(1), NONE);
+        Check.due("both", x.saves(3), 240 + 2);
+        Check.system(x, "sign b 0 1; sign c 2 2; sign d 4 3; sign f 1 1; sign g 1 1;");
+        Check.due("candidates of the old one", x.saves(1), RANGE);
+        Check.candidate(x, 0, "DA");
+        Check.candidate(x, 2, "D");
+        Check.due("one that needs no other now", x.saves(1), 10 * (12 + 4 - 4 - 1));
+        Check.due("one that looks like g", x.saves(2), NONE);
+        Check.due("choose(2)", x.choose(2), 110);
+        Check.due("chosen()", x.chosen(), 1);
     }
 
     private static void adopt() {

@@ -377,6 +377,17 @@ public final class DictationTest {
     }
 
     private static void wrong() {
+        PenSchool y = lookalikes();
+        Check.passage(y, 0, 1, 2);
+        y.dictate(50, 5);
+        y.beside(2, 0, 900);
+        y.beside(0, 1, 900);
+        back(y, 5 + 900 + 5 + 900 + 7, 2, 0, 1);
+        Check.due("one put in ahead, one left out behind", y.wrong(), 2);
+        y.beside(0, 1, 0);
+        y.beside(1, 2, 900);
+        back(y, 7 + 900 + 5 + 900 + 5, 1, 2, 0);
+        Check.due("one left out ahead, one put in behind", y.wrong(), 2);
         PenSchool x = school();
         Check.passage(x, 0, 1, 2, 3, 0, 1);
         Check.policy(x, "when count is 3 do drop;");
