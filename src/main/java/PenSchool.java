@@ -131,8 +131,7 @@ public final class PenSchool {
     // ---- terms
 
     public int term(int count) {
-        int size = tape.size;
-        boolean isRow = tape.isRowOfSounds(0, size) && size <= Tongue.LONGEST;
+        boolean isRow = tape.isOneRow(Tongue.LONGEST);
         tape.size = 0;
         if (count < 1 || count > 9999) {
             return RANGE;
@@ -140,11 +139,11 @@ public final class PenSchool {
         if (!isRow) {
             return NONE;
         }
-        // The bytes still lie there: emptying the tape only sets its size.
-        if (tongue.has(tape.bytes, size)) {
+        // The ROW still lies there: emptying the tape only sets its size.
+        if (tongue.has(tape)) {
             return STATE;
         }
-        return tongue.size >= Tongue.MOST ? FULL : tongue.add(tape.bytes, size, count);
+        return tongue.size >= Tongue.MOST ? FULL : tongue.add(tape, count);
     }
 
     public int about(int t, int what) {
@@ -466,7 +465,7 @@ public final class PenSchool {
         }
 
         void next() {
-            while (at < size && (bytes[at] == ' ' || bytes[at] == '\n')) {
+            while (at < size && isBlank(bytes[at])) {
                 at++;
             }
             start = at;
@@ -480,6 +479,10 @@ public final class PenSchool {
                 kind = bytes[at] == ';' ? SEMICOLON : BAD;
                 at++;
             }
+        }
+
+        private static boolean isBlank(int one) {
+            return one == ' ' || one == '\n';
         }
 
         /** Passes the bytes between two, as many as there are: whether there are any. */
@@ -536,6 +539,22 @@ public final class PenSchool {
                 return refuse(SYNTAX);
             }
             return at - start <= most || refuse(BOUNDS);
+        }
+
+        /** Whether the whole tape is one ROW and blanks, which are no part of it; the FAULT stays as it was. */
+        boolean isOneRow(int most) {
+            at = 0;
+            next();
+            return kind == WORD && isRowOfSounds(start, at) && rowSize() <= most && isBlankFrom(at);
+        }
+
+        private boolean isBlankFrom(int from) {
+            for (int i = from; i < size; i++) {
+                if (!isBlank(bytes[i])) {
+                    return false;
+                }
+            }
+            return true;
         }
 
         int rowSize() {
@@ -863,31 +882,32 @@ public final class PenSchool {
             return t >= 0 && t < size;
         }
 
-        boolean has(int[] letters, int letterCount) {
+        /** Whether a TERM has the ROW that was read from the tape. */
+        boolean has(Tape tape) {
             for (int t = 0; t < size; t++) {
-                if (sizes[t] == letterCount && hasLetters(t, letters)) {
+                if (sizes[t] == tape.rowSize() && hasSounds(t, tape)) {
                     return true;
                 }
             }
             return false;
         }
 
-        private boolean hasLetters(int t, int[] letters) {
+        private boolean hasSounds(int t, Tape tape) {
             for (int i = 0; i < sizes[t]; i++) {
-                if (sounds[t * LONGEST + i] != letters[i] - 'a') {
+                if (sounds[t * LONGEST + i] != tape.soundOfRow(i)) {
                     return false;
                 }
             }
             return true;
         }
 
-        int add(int[] letters, int letterCount, int count) {
+        int add(Tape tape, int count) {
             int t = size;
             size++;
             counts[t] = count;
-            sizes[t] = letterCount;
-            for (int i = 0; i < letterCount; i++) {
-                sounds[t * LONGEST + i] = letters[i] - 'a';
+            sizes[t] = tape.rowSize();
+            for (int i = 0; i < sizes[t]; i++) {
+                sounds[t * LONGEST + i] = tape.soundOfRow(i);
             }
             draw(t);
             return t;

@@ -230,9 +230,14 @@ public final class AgainstPlainSchoolTest {
     }
 
     private void newTerm() {
-        tape(oneIn(20) ? "aq" : row(oneIn(8) ? 12 : 6));
+        String row = oneIn(20) ? "aq" : row(oneIn(8) ? 12 : 6);
+        tape(oneIn(3) ? termBlanks() + row + termBlanks() : oneIn(40) ? row + termBlanks() + "b" : row);
         int count = oneIn(20) ? below(12000) - 100 : 1 + below(oneIn(2) ? 4 : 60);
         same("term(" + count + ")", x.term(count), plain.term(count));
+    }
+
+    private String termBlanks() {
+        return (oneIn(2) ? " " : "\n").repeat(below(4)) + " ".repeat(below(3));
     }
 
     private void tellTerm() {

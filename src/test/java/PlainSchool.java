@@ -458,7 +458,7 @@ final class PlainSchool {
     }
 
     int term(int count) {
-        String text = takeTape();
+        String text = takeTape().replaceAll("^[ \n]+|[ \n]+$", "");
         if (count < 1 || count > 9999) {
             return RANGE;
         }

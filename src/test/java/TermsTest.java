@@ -7,6 +7,8 @@ public final class TermsTest {
 
     public static void main(String[] args) {
         term();
+        termBlanks();
+        termFault();
         termRoom();
         skeletons();
         places();
@@ -25,7 +27,6 @@ public final class TermsTest {
         Check.due("no sounds", Check.term(x, "", 1), NONE);
         Check.due("q", Check.term(x, "q", 1), NONE);
         Check.due("capital", Check.term(x, "A", 1), NONE);
-        Check.due("a blank", Check.term(x, "a ", 1), NONE);
         Check.due("a high byte", Check.term(x, "\u00e1", 1), NONE);
         Check.due("count 0", Check.term(x, "b", 0), PenSchool.RANGE);
         Check.due("count 10000", Check.term(x, "b", 10000), PenSchool.RANGE);
@@ -37,6 +38,48 @@ public final class TermsTest {
         Check.due("count(0)", x.count(0), 4);
     }
 
+    private static void termBlanks() {
+        PenSchool x = new PenSchool();
+        Check.due("blanks behind", Check.term(x, "bc" + " ".repeat(18), 1), 0);
+        Check.due("its sounds", x.about(0, 1), 2);
+        Check.due("its first sound", x.about(0, 50), 1);
+        Check.due("its second sound", x.about(0, 51), 2);
+        Check.due("its skeleton ends", x.about(0, 52), -9);
+        Check.due("blanks ahead", Check.term(x, "  \n de", 2), 1);
+        Check.due("its sounds", x.about(1, 1), 2);
+        Check.due("its first sound", x.about(1, 50), 3);
+        Check.due("its second sound", x.about(1, 51), 4);
+        Check.due("a line's end on both sides", Check.term(x, "\nf\n", 3), 2);
+        Check.due("ten sounds and blanks", Check.term(x, " abcdefghij ", 4), 3);
+        Check.due("its last sound", x.about(3, 59), 9);
+        Check.due("a whole tape", Check.term(x, " ".repeat(790) + "jihgfedcba", 5), 4);
+        Check.due("its last sound", x.about(4, 59), 0);
+        Check.due("the rest of the tape", Check.term(x, "g" + "\n".repeat(799), 6), 5);
+        Check.due("told without blanks", Check.term(x, "bc", 1), PenSchool.STATE);
+        Check.due("told with blanks", Check.term(x, "   bc ", 1), PenSchool.STATE);
+        Check.due("RANGE with blanks", Check.term(x, " b ", 0), PenSchool.RANGE);
+        Check.due("the tape is empty", x.count(6), 0);
+        String[] wrong = {" ", "\n", " ".repeat(800), "b c", "b\nc", "b  b", " abcdefghijk ", "b q", " q ", "b 1",
+            "1 b", "b ;", "; b", "\tb", "b\t", "b\r", "b\0", "b" + (char) 160, " abcdefghijklmnop ", " B "};
+        for (String text : wrong) {
+            Check.due("no ROW: \"" + text + "\"", Check.term(x, text, 1), NONE);
+            Check.due("the tape is empty", x.count(6), 0);
+        }
+        Check.due("count(0)", x.count(0), 6);
+    }
+
+    private static void termFault() {
+        PenSchool x = new PenSchool();
+        Check.fault(x, "turn 12;", true, 2, 5);
+        Check.due("a ROW", Check.term(x, " b ", 1), 0);
+        Check.due("the KIND stays", x.fault(0), 2);
+        Check.due("the PLACE stays", x.fault(1), 5);
+        Check.due("system", Check.system(x, "turn 2;"), 1);
+        Check.due("no ROW", Check.term(x, "  q", 1), NONE);
+        Check.due("no KIND", x.fault(0), 0);
+        Check.due("no PLACE", x.fault(1), NONE);
+    }
+
     private static void termRoom() {
         PenSchool x = new PenSchool();
         for (int i = 0; i < 60; i++) {
@@ -45,6 +88,7 @@ public final class TermsTest {
         }
         Check.due("the 61st", Check.term(x, "p", 1), PenSchool.FULL);
         Check.due("the 61st, told already", Check.term(x, "aa", 1), PenSchool.STATE);
+        Check.due("the 61st, with blanks", Check.term(x, " p ", 1), PenSchool.FULL);
         Check.due("the 61st, no row", Check.term(x, "q", 1), NONE);
         Check.due("the last's count", x.about(59, 0), 60);
         Check.due("about(60)", x.about(60, 0), -9);
