@@ -4,15 +4,23 @@ import java.nio.charset.StandardCharsets;
 final class Check {
     private static int wrong;
     private static int calls;
+    private static int sentences;
+    private static String sentence = "";
 
     private Check() {
+    }
+
+    /** The document's words that the answers behind this call are held against. */
+    static void says(String words) {
+        sentence = "'" + words + "': ";
+        sentences++;
     }
 
     static void due(String call, int got, int want) {
         calls++;
         if (got != want) {
             wrong++;
-            System.out.println(call + " answered " + got + ", due is " + want);
+            System.out.println(sentence + call + " answered " + got + ", due is " + want);
         }
     }
 
@@ -22,7 +30,8 @@ final class Check {
 
     /** Ends the program with 1 if an answer was wrong. */
     static void finish(String test) {
-        System.out.println(test + ": " + calls + " answers, " + wrong + " wrong");
+        String told = sentences == 0 ? "" : sentences + " sentences, ";
+        System.out.println(test + ": " + told + calls + " answers, " + wrong + " wrong");
         if (wrong != 0) {
             System.exit(1);
         }
@@ -80,5 +89,19 @@ final class Check {
         due(call, isSystem ? system(x, text) : policy(x, text), PenSchool.NONE);
         due(call + " fault(0)", x.fault(0), kind);
         due(call + " fault(1)", x.fault(1), place);
+    }
+
+    /** A row of two SOUNDS for each number 0 .. 255, no two alike. */
+    static String pair(int i) {
+        return "" + (char) ('a' + i / 16) + (char) ('a' + i % 16);
+    }
+
+    /** So many SIGNS, numbered as their ROWS pair(0), pair(1) .. are, all of one WAY and LENGTH. */
+    static String manySigns(int n) {
+        StringBuilder text = new StringBuilder();
+        for (int i = 0; i < n; i++) {
+            text.append("sign ").append(pair(i)).append(" 1 1;");
+        }
+        return text.toString();
     }
 }

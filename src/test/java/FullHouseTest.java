@@ -19,20 +19,16 @@ public final class FullHouseTest {
         plain.tape.append(text);
     }
 
-    private static String pair(int i) {
-        return "" + (char) ('a' + i / 16) + (char) ('a' + i % 16);
-    }
-
     private void play() {
         StringBuilder text = new StringBuilder("vowels ponml;");
         for (int s = 0; s < 30; s++) {
-            text.append("sign ").append(s < 16 ? "" + (char) ('a' + s) : pair(s - 16));
+            text.append("sign ").append(s < 16 ? "" + (char) ('a' + s) : Check.pair(s - 16));
             text.append(' ').append(s * 3 % 8).append(' ').append(1 + s / 8 % 3).append(';');
         }
         tape(text.append("sharp 2;phrase 2;").toString());
         Check.due("system()", x.system(), plain.system());
         for (int t = 0; t < 60; t++) {
-            tape(t == 59 ? "ponmlkjihg" : pair(t * 4 + t % 3));
+            tape(t == 59 ? "ponmlkjihg" : Check.pair(t * 4 + t % 3));
             Check.due("term " + t, x.term(t + 1), plain.term(t + 1));
         }
         for (int i = 0; i < 12; i++) {
@@ -112,10 +108,7 @@ public final class FullHouseTest {
 
     private static void longestTexts() {
         PenSchool x = new PenSchool();
-        StringBuilder text = new StringBuilder();
-        for (int s = 0; s < 30; s++) {
-            text.append("sign ").append(pair(s)).append(" 1 1;");
-        }
+        StringBuilder text = new StringBuilder(Check.manySigns(30));
         text.append("vowels abcde;length 1;turn 1;lift 1;sharp 1;drop all;phrase 1;");
         while (text.length() < 800) {
             text.append('\n');

@@ -75,16 +75,11 @@ public final class LessonsTest {
     }
 
     private static void ten() {
-        StringBuilder text = new StringBuilder();
-        for (int i = 0; i < 30; i++) {
-            text.append("sign ").append((char) ('a' + i / 16)).append((char) ('a' + i % 16)).append(" 1 1;");
-        }
-        PenSchool x = Check.school(text.toString());
+        PenSchool x = Check.school(Check.manySigns(30));
         int gain = 0;
         // SIGN 20 + i is best taught as number 9 - i.
         for (int i = 0; i < 10; i++) {
-            String row = "" + (char) ('a' + (20 + i) / 16) + (char) ('a' + (20 + i) % 16);
-            Check.term(x, row, 100 * (i + 1));
+            Check.term(x, Check.pair(20 + i), 100 * (i + 1));
             gain += 100 * (i + 1) * (i + 1);
         }
         order(x, 0x3ff << 20, gain, 29, 28, 27, 26, 25, 24, 23, 22, 21, 20);

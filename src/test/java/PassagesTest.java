@@ -41,7 +41,7 @@ public final class PassagesTest {
         Check.due("joins(0, 5)", x.joins(0, 5, true), RANGE);
         PenSchool y = new PenSchool();
         for (int t = 0; t < 60; t++) {
-            Check.term(y, "" + (char) ('a' + t / 16) + (char) ('a' + t % 16), 1);
+            Check.term(y, Check.pair(t), 1);
         }
         Check.due("joins(59, 59)", y.joins(59, 59, true), 1);
         Check.due("joins(59, 27)", y.joins(59, 27, false), 0);

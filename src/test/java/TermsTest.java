@@ -83,7 +83,7 @@ public final class TermsTest {
     private static void termRoom() {
         PenSchool x = new PenSchool();
         for (int i = 0; i < 60; i++) {
-            String row = "" + (char) ('a' + i / 16) + (char) ('a' + i % 16);
+            String row = Check.pair(i);
             Check.due("term " + row, Check.term(x, row, i + 1), i);
         }
         Check.due("the 61st", Check.term(x, "p", 1), PenSchool.FULL);

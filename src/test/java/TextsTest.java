@@ -229,12 +229,9 @@ public final class TextsTest {
     }
 
     private static void systemRoom() {
-        StringBuilder text = new StringBuilder();
-        for (int i = 0; i < 30; i++) {
-            text.append("sign ").append((char) ('a' + i / 16)).append((char) ('a' + i % 16)).append(" 1 1;");
-        }
+        String text = Check.manySigns(30);
         PenSchool x = new PenSchool();
-        Check.due("thirty signs", Check.system(x, text.toString()), 30);
+        Check.due("thirty signs", Check.system(x, text), 30);
         Check.due("rule(7)", x.rule(7), 30);
         Check.due("last sign", x.sign(29, 11), 13);
         Check.due("no more", x.sign(30, 0), -9);
