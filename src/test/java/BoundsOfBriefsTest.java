@@ -12,11 +12,14 @@ public final class BoundsOfBriefsTest {
         candidateRows();
         candidateBytes();
         twelve();
+        places();
         whichAnswer();
         twoOfOneTerm();
         twoAlike();
         likeAnOutline();
         likeEachOthersOutlines();
+        likeOneOutsideAllTwelve();
+        likeByTheSystem();
         ownOutline();
         withoutOutline();
         emptySet();
@@ -117,6 +120,24 @@ public final class BoundsOfBriefsTest {
         Check.due("the first again", Check.candidate(x, 0, "A"), 0);
     }
 
+    private static void places() {
+        Check.says("(its PLACE is the TERM's)");
+        for (int vowels = 0; vowels <= 4; vowels++) {
+            PenSchool x = Check.school("vowels mnopl; drop all; sign a 0 1; sign b 1 1; sign m 2 1;");
+            String row = vowels == 0 ? "aaa" : "aa" + (char) ('l' + vowels) + "a";
+            int place = vowels == 0 ? 1 : (vowels - 1) % 3;
+            Check.term(x, row, 1);
+            Check.candidate(x, 0, "B");
+            Check.due("adopt", x.adopt(1), 1);
+            x.say(0);
+            x.dictate(1, 1);
+            Check.due("PLACE of " + row, x.about(0, 2), place);
+            Check.due("PLACE of its NOTE", x.note(0, 2), place);
+            Check.due("SIGN of its NOTE", x.note(0, 10), 1);
+            Check.due("it READS so", x.reads(0, 0), 1);
+        }
+    }
+
     private static void whichAnswer() {
         Check.says("RANGE: no such TERM; NONE: it is none of 1 .. 3; FULL.");
         PenSchool x = school(1);
@@ -198,6 +219,35 @@ public final class BoundsOfBriefsTest {
         Check.due("by OUTLINES still", x.saves(1), NONE);
         Check.due("choose(1)", x.choose(1), 0);
         Check.due("choose(2)", x.choose(2), 2);
+    }
+
+    private static void likeOneOutsideAllTwelve() {
+        PenSchool x = Check.school("sign a 0 1; sign b 1 1; length 1;");
+        Check.term(x, "a", 1);
+        Check.term(x, "bb", 5);
+        for (int i = 0; i < 12; i++) {
+            Check.due("candidate " + i, Check.candidate(x, 1, i < 6 ? "A" : "B"), i);
+        }
+        Check.due("like the OUTLINE of one without CANDIDATES", x.saves(1), NONE);
+        Check.due("like none", x.saves(2048), 5);
+        Check.due("choose(12)", x.choose(12), 5);
+        Check.due("chosen()", x.chosen(), 64);
+    }
+
+    private static void likeByTheSystem() {
+        PenSchool x = Check.school("sign a 0 1; sign b 1 1; sign c 0 1; length 1;");
+        Check.term(x, "a", 1);
+        Check.term(x, "bb", 5);
+        Check.candidate(x, 0, "B");
+        Check.candidate(x, 1, "C");
+        Check.due("like one without", x.saves(2), NONE);
+        Check.due("like one with one", x.saves(3), 5);
+        Check.system(x, "sign a 0 1; sign b 1 1; sign c 2 1; length 1;");
+        Check.candidate(x, 0, "B");
+        Check.candidate(x, 1, "C");
+        Check.due("like none by another SYSTEM", x.saves(2), 5);
+        Check.due("choose(1)", x.choose(1), 5);
+        Check.due("chosen()", x.chosen(), 2);
     }
 
     private static void ownOutline() {

@@ -23,6 +23,8 @@ public final class BoundsOfDictationTest {
         greatestNumbers();
         allConditions();
         firstLine();
+        lastCondition();
+        anotherPolicy();
         noLine();
         oneTickAtLeast();
         shortOnes();
@@ -282,6 +284,29 @@ public final class BoundsOfDictationTest {
         PenSchool y = school("when signs is 3 do short 1; when signs is 3 do short 2;", 2);
         y.dictate(1, 1);
         Check.due("SIGNS by the first of two lines", y.note(0, 1), 1);
+    }
+
+    private static void lastCondition() {
+        Check.says("at most 8 lines of at most 4 COND");
+        String line = "when mind is 9 and mind is 9 and mind is 9 and mind is 9 do write;";
+        String last = "when mind is 1 and late is 0 and cost is 5 and count is ";
+        PenSchool x = school(line.repeat(7) + last + "500 do drop;", 4);
+        dictate(x, 1, 1, 0, 0, 0, 1);
+        Check.policy(x, line.repeat(7) + last + "501 do drop;");
+        dictate(x, 1, 1, 5, 1, 0, 0);
+    }
+
+    private static void anotherPolicy() {
+        Check.says("THE TAPE is the POLICY");
+        PenSchool x = school("when mind is 1 and mind is 9 and mind is 9 do drop; when mind is 1 do rest 50;", 4);
+        for (int turn = 0; turn < 3; turn++) {
+            Check.policy(x, "when mind is 1 do drop;");
+            dictate(x, 1, 1, 0, 0, 0, 1);
+            Check.policy(x, "when mind is 1 and mind is 2 do drop;");
+            dictate(x, 1, 1, 5, 1, 0, 0);
+        }
+        Check.policy(x, "");
+        dictate(x, 1, 1, 5, 1, 0, 0);
     }
 
     private static void noLine() {

@@ -25,6 +25,7 @@ public final class BoundsOfPassageTest {
         dearTurns();
         fewestPhrases();
         leastRow();
+        shorterPassages();
         phraseAsked();
         Check.finish("BoundsOfPassageTest");
     }
@@ -312,6 +313,21 @@ public final class BoundsOfPassageTest {
         cut(x, 10 + 6, 2, 3);
         Check.passage(x, 0, 0, 0, 0, 0, 0, 0);
         cut(x, 14 + 12, 1, 3, 3);
+    }
+
+    private static void shorterPassages() {
+        Check.says("The PASSAGE is empty");
+        PenSchool x = school("");
+        x.joins(0, 0, true);
+        for (int n = 6; n >= 1; n--) {
+            x.clear();
+            for (int i = 0; i < n; i++) {
+                x.say(0);
+            }
+            Check.due("phrased() of " + n, x.phrased(), 2 * n + (n > 3 ? 6 : 0));
+            Check.due("phrase(0)", x.phrase(0), n > 3 ? 2 : 1);
+            Check.due("phrase(12)", x.phrase(12), NONE);
+        }
     }
 
     private static void phraseAsked() {

@@ -339,6 +339,10 @@ public final class BoundsOfReadingTest {
         y.beside(2, 0, 900);
         row(y, 1 + 900 + 1 + 900 + 9, 1, 2, 0);
         Check.due("one put in ahead, one left out behind", y.wrong(), 2);
+        Check.passage(y, 2, 0, 1);
+        y.dictate(9, 1);
+        row(y, 1 + 900 + 1 + 900 + 9, 1, 2, 0);
+        Check.due("one left out ahead, one put in behind", y.wrong(), 2);
     }
 
     private static void wrongOfSixty() {

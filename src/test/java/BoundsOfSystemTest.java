@@ -23,6 +23,7 @@ public final class BoundsOfSystemTest {
         lengths();
         sounds();
         thirtySigns();
+        longestSigns();
         twice();
         rowsTwice();
         firstFault();
@@ -125,7 +126,7 @@ public final class BoundsOfSystemTest {
     }
 
     private static void vowelsTwice() {
-        Check.says("no two alike");
+        Check.says("a ROW of vowels, of a SIGN, that is too long, or in which a vowel is told twice");
         PenSchool x = new PenSchool();
         for (String row : new String[] {"aa", "aba", "abb", "abcda", "abcdd", "pop", "bccde"}) {
             Check.fault(x, "vowels " + row + ";", true, RANGE, 7);
@@ -206,6 +207,23 @@ public final class BoundsOfSystemTest {
         Check.fault(x, thirty + "signs", true, SYNTAX, thirty.length());
         Check.due("the SYSTEM stays", x.rule(7), 30);
         Check.due("clauses that are no SIGN", Check.system(x, thirty + "turn 2;"), 31);
+    }
+
+    private static void longestSigns() {
+        Check.says("(at most 30): a ROW of 1 .. 4 SOUNDS");
+        StringBuilder text = new StringBuilder();
+        for (int s = 0; s < 30; s++) {
+            text.append("sign ").append(Check.pair(s)).append(Check.pair(255 - s)).append(" 7 3;");
+        }
+        PenSchool x = new PenSchool();
+        Check.due("thirty SIGNS of four SOUNDS", Check.system(x, text.toString()), 30);
+        for (int s = 0; s < 30; s++) {
+            Check.due("sign(" + s + ", 10)", x.sign(s, 10), s / 16);
+            Check.due("sign(" + s + ", 13)", x.sign(s, 13), (255 - s) % 16);
+            Check.due("sign(" + s + ", 14)", x.sign(s, 14), ABSENT);
+        }
+        Check.due("its last one is drawn", Check.term(x, Check.pair(29) + Check.pair(226), 1), 0);
+        Check.due("about(0, 10)", x.about(0, 10), 29);
     }
 
     private static void twice() {

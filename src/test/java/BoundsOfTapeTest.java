@@ -235,9 +235,14 @@ public final class BoundsOfTapeTest {
     private static void longWords() {
         Check.says("WORDS (small letters, as many as there are, 12 at most)");
         PenSchool x = new PenSchool();
+        Check.due("six letters", Check.system(x, "vowels abcde;"), 1);
         Check.fault(x, "vowels abcdefghijkl;", true, 2, 7);
-        Check.fault(x, "vowels abcdefghijklm;", true, 1, 7);
         Check.fault(x, "sign abcdefghijkl 0 1;", true, 2, 5);
+        Check.says("a WORD of 13 letters, an N of five digits; a ROW with another letter");
+        Check.fault(x, "vowels abcdefghijklm;", true, 1, 7);
+        Check.fault(x, "vowels abq;", true, 1, 7);
+        Check.fault(x, "sign abq 0 1;", true, 1, 5);
+        Check.fault(x, "sign ab 00000 1;", true, 1, 8);
         Check.fault(x, "sign abcdefghijklm 0 1;", true, 1, 5);
         Check.fault(x, "turn" + "s".repeat(9) + " 1;", true, 1, 0);
     }

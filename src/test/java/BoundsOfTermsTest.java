@@ -16,6 +16,7 @@ public final class BoundsOfTermsTest {
         otherBytes();
         alreadyThere();
         sixty();
+        sixtyLongOnes();
         whichAnswer();
         dropAll();
         dropInner();
@@ -133,6 +134,20 @@ public final class BoundsOfTermsTest {
         Check.due("the last", x.about(59, 0), 60);
         Check.due("its SOUND", x.about(59, 51), 11);
         Check.due("behind it", x.about(60, 0), ABSENT);
+    }
+
+    private static void sixtyLongOnes() {
+        Check.says("TERMS, at most 60, numbered from 0: words of the tongue, each a ROW of 1 .. 10 SOUNDS");
+        PenSchool x = new PenSchool();
+        for (int t = 0; t < 60; t++) {
+            Check.due("term " + t, Check.term(x, Check.pair(t).repeat(5), 1), t);
+        }
+        Check.due("a SYSTEM for sixty", Check.system(x, "sign a 0 1; sign b 0 1; sign c 0 1; sign d 0 1; sign l 0 1;"), 5);
+        for (int t = 0; t < 60; t++) {
+            Check.due("the last SOUND of " + t, x.about(t, 59), t % 16);
+        }
+        Check.due("the last one is drawn", x.about(59, 4), 10);
+        Check.due("count(7)", x.count(7), 4 * 5);
     }
 
     private static void whichAnswer() {
@@ -318,6 +333,11 @@ public final class BoundsOfTermsTest {
         Check.system(x, "sign a 0 1; sign bc 4 1; sign ab 0 3; sign c 0 1; turn 9;");
         Check.term(x, "abc", 1);
         outline(x, 1, 2, 3);
+        // Nor is what would be cheapest without the TURN behind the SIGN ahead of it.
+        Check.system(x, "sign a 0 1; sign bc 4 1; sign b 0 1; sign c 0 1; turn 9;");
+        outline(x, 1, 0, 2, 3);
+        Check.system(x, "sign bc 4 1; sign b 0 1; sign c 0 1; sign a 0 1; turn 0;");
+        outline(x, 1, 3, 0);
     }
 
     private static void fewestSigns() {
